@@ -1,0 +1,203 @@
+/** PATHS, and the MOUNT by which one came. Each NODE's OWNER is its own number, so that LOOK tells where a PATH leads. */
+public final class Promise13PathsTest {
+    private static final int UP = Check.UP, MISSING = CageKernel.MISSING;
+
+    public static void main(String[] args) {
+        names();
+        bits();
+        rootOfTheCage();
+        aMountStaysOnTheWay();
+        upFromAMountOnAMount();
+        upFromThePointAsItWasComeTo();
+        chainsInOneStep();
+        eachMountOnceInOneStep();
+        twoMountsOfOnePoint();
+        theRootShown();
+        calls();
+        Check.end();
+    }
+
+    /**
+     * The tree:  0 ( 1 ( 3 ( 5 ( 7 ) ) ) , 2 ( 4 ( 6 ( 8 file ) ) ) ), every NODE's NAME is its number.
+     */
+    private static CageKernel withTree(int root) {
+        CageKernel k = new CageKernel();
+        int[] in = {0, 0, 0, 1, 2, 3, 4, 5, 6};
+        for (int n = 1; n < in.length; n++) {
+            Check.due("node", n, k.node(in[n], n, n == 8 ? Check.FILE : Check.DIRECTORY, n));
+        }
+        k.cage(root, 0, 256, -1, 255);
+        k.start(0, 255, -1);
+        return k;
+    }
+
+    private static void leads(CageKernel k, String what, int want, int... names) {
+        Check.due(what, want, k.sys(0, Check.LOOK, Check.path(names), 0));
+    }
+
+    private static void mount(CageKernel k, int point, int shown) {
+        Check.due("mount", 0, k.sys(0, Check.MOUNT, point, shown));
+    }
+
+    private static void names() {
+        CageKernel k = withTree(0);
+        leads(k, "no name", 0);
+        leads(k, "one name", 1, 1);
+        leads(k, "four names", 7, 1, 3, 5, 7);
+        leads(k, "a file", 256 + 8, 2, 4, 6, 8);
+        leads(k, "a name in a file", MISSING, 2, 4, 6, 8, 8);
+        leads(k, "up from a file", 6, 2, 4, 6, 8, UP);
+        leads(k, "a name that is not there", MISSING, 3);
+        leads(k, "no way on from nothing", MISSING, 3, UP);
+        leads(k, "up and down", 4, 1, UP, 2, 4);
+        leads(k, "up from the root", 2, UP, UP, 2);
+        leads(k, "seven names", 7, 1, UP, UP, 1, 3, 5, 7);
+        leads(k, "up at last", 5, 1, 3, 5, 7, UP, 7, UP);
+    }
+
+    private static void bits() {
+        CageKernel k = withTree(0);
+        leads(k, "names behind a 0 are none", 1, 1, 0, 9, 9);
+        leads(k, "a 0 at first", 0, 0, 9, UP, 9, 9, 9, 9);
+        leads(k, "seven ups", 0, UP, UP, UP, UP, UP, UP, UP);
+        for (int bit = 28; bit < 32; bit++) {
+            Check.due("bit " + bit, MISSING, k.sys(0, Check.LOOK, 1 | 1 << bit, 0));
+            Check.due("bit " + bit + " alone", MISSING, k.sys(0, Check.LOOK, 1 << bit, 0));
+        }
+        Check.due("all bits", MISSING, k.sys(0, Check.LOOK, -1, 0));
+        Check.due("the least", MISSING, k.sys(0, Check.LOOK, Check.LEAST, 0));
+    }
+
+    private static void rootOfTheCage() {
+        CageKernel k = withTree(3);
+        leads(k, "its root", 3);
+        leads(k, "below it", 7, 5, 7);
+        leads(k, "not above it", 3, UP);
+        leads(k, "not above it from below", 3, 5, UP, UP, UP);
+        leads(k, "names above are missing", MISSING, 1);
+    }
+
+    private static void aMountStaysOnTheWay() {
+        CageKernel k = withTree(0);
+        mount(k, Check.path(1, 3), 2);
+        leads(k, "shown", 2, 1, 3);
+        leads(k, "up from what it shows", 1, 1, 3, UP);
+        leads(k, "below", 6, 1, 3, 4, 6);
+        leads(k, "back to what it shows", 2, 1, 3, 4, UP);
+        leads(k, "and on from its point", 1, 1, 3, 4, UP, UP);
+        leads(k, "from deeper", 1, 1, 3, 4, 6, UP, UP, UP);
+        leads(k, "on to the root", 0, 1, 3, 4, UP, UP, UP);
+        leads(k, "what it shows, come to by itself", 0, 2, UP);
+        leads(k, "below that", 0, 2, 4, UP, UP);
+        leads(k, "what the point had is hidden", MISSING, 1, 3, 5);
+        Check.due("on the way it is not taken", CageKernel.NONE, k.sys(0, Check.UNMOUNT, Check.path(1, 3, 4), 0));
+        Check.due("back at what it shows it is", 0, k.sys(0, Check.UNMOUNT, Check.path(1, 3, 4, UP), 0));
+        leads(k, "what the point had is there again", 5, 1, 3, 5);
+    }
+
+    private static void upFromAMountOnAMount() {
+        CageKernel k = withTree(0);
+        mount(k, Check.path(1, 3), Check.path(2, 4));
+        mount(k, Check.path(1, 3), 2);
+        leads(k, "the latest", 2, 1, 3);
+        leads(k, "up, over both points", 1, 1, 3, UP);
+        leads(k, "up again", 0, 1, 3, UP, UP);
+        leads(k, "node 4 is a point now, by every way", 2, 2, 4);
+        leads(k, "up goes by the way of the making", 1, 2, 4, UP);
+        Check.due("taken by the other way", 0, k.sys(0, Check.UNMOUNT, Check.path(2, 4), 0));
+        leads(k, "the earlier one", 4, 1, 3);
+        leads(k, "node 4 again", 4, 2, 4);
+        leads(k, "with its own way up", 2, 2, 4, UP);
+    }
+
+    private static void upFromThePointAsItWasComeTo() {
+        CageKernel k = withTree(0);
+        mount(k, Check.path(1, 3), 2);
+        mount(k, Check.path(1, 3, 4), Check.path(1));
+        leads(k, "the inner one", 1, 1, 3, 4);
+        leads(k, "up to what the outer one shows", 2, 1, 3, 4, UP);
+        leads(k, "then up from the outer point", 1, 1, 3, 4, UP, UP);
+        leads(k, "by the plain way the point is the same", 2, 2, 4, UP);
+        leads(k, "and goes on as it was come to", 1, 2, 4, UP, UP);
+        Check.due("busy", CageKernel.BUSY, k.sys(0, Check.UNMOUNT, Check.path(2, 4, UP), 0));
+        Check.due("inner", 0, k.sys(0, Check.UNMOUNT, Check.path(2, 4), 0));
+        Check.due("outer", 0, k.sys(0, Check.UNMOUNT, Check.path(1, 3), 0));
+    }
+
+    private static void chainsInOneStep() {
+        CageKernel k = withTree(0);
+        mount(k, Check.path(2, 4), Check.path(1, 3, 5));
+        mount(k, 1, Check.path(2));
+        mount(k, Check.path(2), Check.path(2, 4));
+        leads(k, "2 shows 5", 5, 2);
+        leads(k, "1 shows 2, that shows 5", 5, 1);
+        leads(k, "up is up from the point 2", 0, 1, UP);
+        leads(k, "below", 7, 1, 7);
+        leads(k, "and up again", 0, 1, 7, UP, UP);
+        Check.due("the last of the chain is taken", 0, k.sys(0, Check.UNMOUNT, 1, 0));
+        leads(k, "then 1 shows 2", 2, 1);
+        leads(k, "and 4 in it shows 5", 5, 1, 4);
+        leads(k, "whose way up is plain", 2, 1, 4, UP);
+        leads(k, "to the root", 0, 1, 4, UP, UP);
+    }
+
+    private static void eachMountOnceInOneStep() {
+        CageKernel k = withTree(0);
+        mount(k, 1, 2);
+        mount(k, 1, 2);
+        leads(k, "a mount that shows its own point", 2, 1);
+        leads(k, "by the plain way, too", 2, 2);
+        leads(k, "up from 2 by the second mount is up from 1", 0, 2, UP);
+        leads(k, "the second one is used again in the next step", 2, 2, UP, 2);
+        mount(k, 2, Check.path(2, 4));
+        leads(k, "the latest of one point counts", 4, 2);
+        leads(k, "also from another mount", 4, 1);
+    }
+
+    /** A way up leads to a POINT without crossing: so one can mount on it again. */
+    private static void twoMountsOfOnePoint() {
+        CageKernel k = withTree(0);
+        mount(k, 2, Check.path(1, 3));
+        mount(k, Check.path(1, 3), Check.path(1, 3, 5));
+        mount(k, 1, Check.path(2, 7));
+        leads(k, "1 shows 7", 7, 1);
+        leads(k, "a way up crosses no mount", 1, 2, UP);
+        mount(k, Check.path(2, UP), Check.path(2, UP));
+        leads(k, "the latest shows 1 itself, then the other one is taken", 7, 1);
+        Check.due("so that is the one to unmount", 0, k.sys(0, Check.UNMOUNT, 1, 0));
+        leads(k, "1 shows itself", 1, 1);
+        leads(k, "with what is in it", 5, 1, 3);
+        Check.due("the latest", 0, k.sys(0, Check.UNMOUNT, 1, 0));
+        Check.due("no other", CageKernel.NONE, k.sys(0, Check.UNMOUNT, 1, 0));
+        leads(k, "1 itself", 1, 1);
+    }
+
+    private static void theRootShown() {
+        CageKernel k = withTree(1);
+        mount(k, Check.path(3, 5), 0);
+        leads(k, "the root, come to by a mount", 1, 3, 5);
+        leads(k, "up from it is up from the point", 3, 3, 5, UP);
+        leads(k, "round again", 1, 3, 5, 3, 5);
+        leads(k, "up from below", 1, 3, 5, 3, UP);
+        leads(k, "and on from the point", 3, 3, 5, 3, UP, UP);
+        leads(k, "the root itself", 1, UP);
+        Check.due("it can be a point", 0, k.sys(0, Check.MOUNT, Check.path(3, 5), 3));
+        leads(k, "which no way from the root crosses", 1);
+        leads(k, "nor a way up to it", 1, 3, UP);
+        leads(k, "but what shows it does", 3, 3, 5);
+    }
+
+    private static void calls() {
+        CageKernel k = withTree(0);
+        mount(k, 1, 2);
+        Check.due("write below a mount", 0, k.sys(0, Check.WRITE, Check.path(1, 4, 6, 8), 9));
+        Check.due("read the file itself", 9, k.sys(0, Check.READ, Check.path(2, 4, 6, 8), 0));
+        Check.due("make below a mount", 9, k.sys(0, Check.MAKE, Check.path(1, 9), Check.FILE));
+        Check.due("it is in what is shown", 2, k.file(9, 2));
+        Check.due("make looks at the name in the tree", CageKernel.EXISTS, k.sys(0, Check.MAKE, 1, 0));
+        Check.due("give below a mount", 0, k.sys(0, Check.GIVE, Check.path(1, 9), 77));
+        Check.due("owner", 77, k.file(9, 3));
+        Check.due("remove below a mount", 0, k.sys(0, Check.REMOVE, Check.path(1, 9), 0));
+        Check.due("what is shown is busy", CageKernel.BUSY, k.sys(0, Check.REMOVE, 1, 0));
+    }
+}
