@@ -51,9 +51,6 @@ public final class CageKernel {
         }
         walk = new Walk();
         secondWalk = new Walk();
-        cagesMade = 0;
-        callsMade = 0;
-        callsStopped = 0;
     }
 
     // ---- calls from outside ----
@@ -927,9 +924,14 @@ public final class CageKernel {
                 int name = nameAt(path, i);
                 if (name == UP) {
                     goUp(cage);
-                } else if (!goDown(tree, cage, name)) {
+                    continue;
+                }
+                Node child = tree.childOf(node, name);
+                if (child == null) {
                     return false;
                 }
+                node = child;
+                cross(cage);
             }
             return true;
         }
@@ -942,16 +944,7 @@ public final class CageKernel {
             return mount != null && node == mount.shown;
         }
 
-        private boolean goDown(Tree tree, Cage cage, int name) {
-            Node child = tree.childOf(node, name);
-            if (child == null) {
-                return false;
-            }
-            node = child;
-            cross(cage);
-            return true;
-        }
-
+        /** Goes on to what MOUNTS show, each at most once; with none the MOUNT by which one came stays. */
         private void cross(Cage cage) {
             int taken = 0;
             for (int i = 0; i < MOUNT_ROOM; i++) {

@@ -162,6 +162,12 @@ public final class Promise07FileCallsTest {
     }
 
     private static void removeBusyEverywhere() {
+        CageKernel first = new CageKernel();
+        first.node(0, 1, Check.DIRECTORY, 0);
+        first.cage(1, 0, 9, -1, 255);
+        first.cage(0, 0, 9, -1, 255);
+        first.start(1, 255, -1);
+        Check.due("root of the first cage", CageKernel.BUSY, first.sys(0, Check.REMOVE, 1, 0));
         CageKernel k = Check.oneCage(255);
         for (int name = 1; name <= 4; name++) {
             k.node(0, name, Check.DIRECTORY, 0);

@@ -7,6 +7,7 @@ public final class Promise07ProcessCallsTest {
         exitCodes();
         waiting();
         orphans();
+        processZeroIsAChild();
         killing();
         killDenied();
         initEnds();
@@ -119,6 +120,25 @@ public final class Promise07ProcessCallsTest {
         Check.due("wait", 256 * 4 + 33, k.sys(0, Check.WAIT, 0, 0));
         Check.due("wait", CageKernel.AGAIN, k.sys(0, Check.WAIT, 0, 0));
         Check.due("used", 3, k.look(0, 2));
+    }
+
+    private static void processZeroIsAChild() {
+        CageKernel k = Check.oneCage(255);
+        k.cage(0, 0, 9, -1, 255);
+        k.start(1, 255, -1);
+        k.sys(1, Check.FORK, 0, 0);
+        k.kill(0);
+        Check.due("fork", 3, k.sys(2, Check.FORK, 0, 0));
+        Check.due("its parent", 2, k.process(0, 4));
+        k.sys(2, Check.EXIT, 5, 0);
+        Check.due("init, which is process 1", 1, k.process(0, 4));
+        k.sys(0, Check.EXIT, 6, 0);
+        Check.due("wait", 256 * 3 + 6, k.sys(1, Check.WAIT, 0, 0));
+        Check.due("wait", 256 * 2 + 5, k.sys(1, Check.WAIT, 0, 0));
+        Check.due("fork", 4, k.sys(1, Check.FORK, 0, 0));
+        Check.due("kill by number", 0, k.sys(1, Check.KILL, 4, 0));
+        k.sys(1, Check.EXIT, 0, 0);
+        Check.due("nobody is left", 0, k.count(2) + k.count(3));
     }
 
     private static void killing() {

@@ -9,6 +9,7 @@ public final class Promise13PathsTest {
         aMountStaysOnTheWay();
         upFromAMountOnAMount();
         upFromThePointAsItWasComeTo();
+        fourMountsDeep();
         chainsInOneStep();
         eachMountOnceInOneStep();
         twoMountsOfOnePoint();
@@ -122,6 +123,22 @@ public final class Promise13PathsTest {
         Check.due("busy", CageKernel.BUSY, k.sys(0, Check.UNMOUNT, Check.path(2, 4, UP), 0));
         Check.due("inner", 0, k.sys(0, Check.UNMOUNT, Check.path(2, 4), 0));
         Check.due("outer", 0, k.sys(0, Check.UNMOUNT, Check.path(1, 3), 0));
+    }
+
+    private static void fourMountsDeep() {
+        CageKernel k = withTree(0);
+        mount(k, Check.path(1, 3), 2);
+        mount(k, Check.path(1, 3), Check.path(2, 4, 6));
+        k.sys(0, Check.UNMOUNT, Check.path(1, 3), 0);
+        mount(k, Check.path(1, 3), Check.path(1, 3, 4));
+        mount(k, Check.path(1, 3), Check.path(1, 3, 6));
+        mount(k, Check.path(1, 3), 1);
+        leads(k, "the fourth", 1, 1, 3);
+        leads(k, "up, over all four points", 1, 1, 3, UP);
+        leads(k, "up again", 0, 1, 3, UP, UP);
+        Check.due("three are busy, the fourth is not", 0, k.sys(0, Check.UNMOUNT, Check.path(1, 3), 0));
+        leads(k, "the third", 6, 1, 3);
+        leads(k, "up, over three points", 1, 1, 3, UP);
     }
 
     private static void chainsInOneStep() {
