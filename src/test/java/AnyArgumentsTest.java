@@ -5,7 +5,7 @@ import java.util.Random;
  * itself; and the same calls always give the same answers.
  */
 public final class AnyArgumentsTest {
-    private static final int ROUNDS = 400, CALLS = 512;
+    private static final int ROUNDS = 600, CALLS = 300;
     private static final int[] ODD = {-1, 0, 1, 2, 15, 16, 31, 32, 255, 256, Check.LEAST, Check.MOST, 1 << 28};
 
     public static void main(String[] args) {
