@@ -1,258 +1,161 @@
-/** The calls 4 READ, 5 WRITE, 6 MAKE, 7 REMOVE, 8 GIVE and 17 LOOK. */
+/** The calls 4 READ, 5 WRITE, 8 GIVE and 17 LOOK. A method for each of the document's sentences. */
 public final class Promise07FileCallsTest {
+    private static final int MISSING = CageKernel.MISSING, KIND = CageKernel.KIND, DENIED = CageKernel.DENIED;
+
     public static void main(String[] args) {
+        missing();
+        readKind();
+        writeKind();
         readAndWrite();
-        mayWrite();
-        make();
-        makeOrder();
-        makeFull();
-        remove();
-        removeBusyEverywhere();
-        give();
-        look();
-        quota();
+        writeDenied();
+        mayChangeItsOwn();
+        mayChangeWithOwn();
+        giveWithoutOwn();
+        giveOwnersWithoutNumber();
+        giveToNoUser();
+        giveMakesOwner();
+        lookNumbers();
         Check.end();
     }
 
-    private static void readAndWrite() {
-        CageKernel k = Check.oneCage(1);
-        k.node(0, 1, Check.FILE, 0);
-        k.node(0, 2, Check.DIRECTORY, 0);
-        Check.due("at first", 0, k.sys(0, Check.READ, 1, 0));
-        for (int value : new int[] {7, -5, Check.LEAST, Check.MOST, 0}) {
-            Check.due("write", 0, k.sys(0, Check.WRITE, 1, value));
-            Check.due("read", value, k.sys(0, Check.READ, 1, 0));
-            Check.due("file", value, k.file(1, 4));
-        }
-        for (int call = Check.READ; call <= Check.WRITE; call++) {
-            Check.due("missing", CageKernel.MISSING, k.sys(0, call, 3, 0));
-            Check.due("a name in a file", CageKernel.MISSING, k.sys(0, call, Check.path(1, 1), 0));
-            Check.due("a directory", CageKernel.KIND, k.sys(0, call, 2, 0));
-            Check.due("the root", CageKernel.KIND, k.sys(0, call, 0, 0));
-        }
-    }
-
-    private static void mayWrite() {
+    /** DIRECTORIES 1, 3, .. and FILES 2, 4, .. in the root, with these OWNERS; NAMES are the numbers of the NODES. */
+    private static CageKernel withOwners(int powers, int... owners) {
         CageKernel k = new CageKernel();
-        int[] owners = {9, 10, 13, 14, 15};
         for (int i = 0; i < owners.length; i++) {
-            k.node(0, i + 1, Check.FILE, owners[i]);
+            k.node(0, 2 * i + 1, Check.DIRECTORY, owners[i]);
+            k.node(0, 2 * i + 2, Check.FILE, owners[i]);
         }
-        k.node(0, 9, Check.DIRECTORY, 9);
         k.cage(0, 10, 5, -1, 255);
-        k.start(0, 255, -1);
-        int no = CageKernel.DENIED;
-        int[] withOwn = {no, 0, 0, 0, no};
-        int[] without = {no, 0, no, no, no};
-        int[] asUserThree = {no, no, 0, no, no};
-        for (int i = 0; i < owners.length; i++) {
-            Check.due("with own, owner " + owners[i], withOwn[i], k.sys(0, Check.WRITE, i + 1, 1));
-        }
-        k.sys(0, Check.POWERS, 0, 254);
-        for (int i = 0; i < owners.length; i++) {
-            Check.due("without own, owner " + owners[i], without[i], k.sys(0, Check.WRITE, i + 1, 1));
-            Check.due("everybody reads", i == 0 || i == 4 ? 0 : 1, k.sys(0, Check.READ, i + 1, 1));
-        }
-        k.sys(0, Check.USER, 3, 0);
-        for (int i = 0; i < owners.length; i++) {
-            Check.due("as user 3, owner " + owners[i], asUserThree[i], k.sys(0, Check.WRITE, i + 1, 2));
-        }
-        Check.due("kind before denied", CageKernel.KIND, k.sys(0, Check.WRITE, 9, 1));
+        Check.due("start", 0, k.start(0, powers, -1));
+        return k;
     }
 
-    private static void make() {
-        CageKernel k = new CageKernel();
-        k.node(0, 1, Check.DIRECTORY, 12);
-        k.cage(1, 10, 5, -1, 255);
-        k.start(0, 255, -1);
-        k.sys(0, Check.USER, 2, 0);
-        Check.due("directory", 2, k.sys(0, Check.MAKE, 14, Check.DIRECTORY));
-        Check.due("file", 3, k.sys(0, Check.MAKE, Check.path(14, 1), Check.FILE));
-        Check.due("by a way up", 4, k.sys(0, Check.MAKE, Check.path(14, Check.UP, 5), Check.FILE));
-        int[] directory = {0, 14, 1, 12, 1, 0};
-        int[] file = {1, 1, 2, 12, 0, 0};
-        for (int what = 0; what < 6; what++) {
-            Check.due("directory, " + what, directory[what], k.file(2, what));
-            Check.due("file, " + what, file[what], k.file(3, what));
-        }
-        Check.due("in the root of the cage", 1, k.file(4, 2));
-        Check.due("of seven names", CageKernel.MISSING, k.sys(0, Check.MAKE, Check.path(14, 2, 2, 2, 2, 2, 2), 0));
-        for (int n = 5; n < 9; n++) {
-            int path = Check.path(14, 2, n < 6 ? 0 : 2, n < 7 ? 0 : 2, n < 8 ? 0 : 2);
-            Check.due("deeper", n, k.sys(0, Check.MAKE, path, 0));
-        }
-        Check.due("deeper", 9, k.sys(0, Check.MAKE, Check.path(14, 2, 2, 2, 2, 2), 0));
-        Check.due("of seven names", 10, k.sys(0, Check.MAKE, Check.path(14, 2, 2, 2, 2, 2, 3), 0));
-        Check.due("it is there", 9, k.file(10, 2));
-        Check.due("used", 9, k.look(0, 1));
-    }
-
-    private static void makeOrder() {
-        CageKernel k = new CageKernel();
-        k.node(0, 1, Check.FILE, 9);
-        k.node(0, 2, Check.DIRECTORY, 9);
-        k.node(2, 3, Check.DIRECTORY, 9);
-        k.cage(0, 0, 5, -1, 0xf0);
-        k.start(0, 254, -1);
-        int missing = CageKernel.MISSING, kind = CageKernel.KIND;
-        Check.due("no name", missing, k.sys(0, Check.MAKE, 0, 0));
-        Check.due("no name, for names behind a 0 are none", missing, k.sys(0, Check.MAKE, 0x50, 0));
-        Check.due("up", missing, k.sys(0, Check.MAKE, Check.UP, 0));
-        Check.due("up at last", missing, k.sys(0, Check.MAKE, Check.path(2, Check.UP), 2));
-        Check.due("leads to nothing", missing, k.sys(0, Check.MAKE, Check.path(4, 4), 2));
-        Check.due("in a file's name", missing, k.sys(0, Check.MAKE, Check.path(1, 4, 4), 2));
-        Check.due("other bits", missing, k.sys(0, Check.MAKE, 4 | 1 << 28, 0));
-        Check.due("other bits", missing, k.sys(0, Check.MAKE, 4 | 1 << 31, 0));
-        Check.due("in a file", kind, k.sys(0, Check.MAKE, Check.path(1, 4), 0));
-        for (int b : new int[] {-1, 2, Check.LEAST, Check.MOST}) {
-            Check.due("of kind " + b, kind, k.sys(0, Check.MAKE, 2, b));
-        }
-        Check.due("exists before denied", CageKernel.EXISTS, k.sys(0, Check.MAKE, Check.path(2, 3), 0));
-        Check.due("denied before quota", CageKernel.DENIED, k.sys(0, Check.MAKE, Check.path(2, 4), 0));
-        Check.due("quota", CageKernel.QUOTA, k.sys(0, Check.MAKE, 4, 0));
-        Check.due("nothing was made", 4, k.count(0));
-        k.sys(0, Check.POWERS, 0, 1);
-        Check.due("own, but its owner has no number", CageKernel.DENIED, k.sys(0, Check.MAKE, Check.path(2, 4), 0));
-    }
-
-    private static void makeFull() {
-        CageKernel k = new CageKernel();
-        k.cage(0, 0, 5, -1, 0xf0);
-        k.start(0, 255, -1);
-        k.node(0, 1, Check.DIRECTORY, 9);
-        k.node(0, 2, Check.DIRECTORY, 0);
-        for (int n = 3; n < 32; n++) {
-            k.node(n < 16 ? 1 : n < 20 ? 0 : 2, 1 + (n < 16 ? n - 3 : n), 1, 0);
-            if (n >= 16) {
-                k.node(n < 20 ? 0 : 2, 3 + (n < 20 ? n - 16 : n - 20), 1, 0);
+    private static void missing() {
+        Check.sentence(7, "READ a, WRITE a b, GIVE a b, LOOK a: MISSING");
+        CageKernel k = withOwners(255, 10);
+        for (int call : new int[] {Check.READ, Check.WRITE, Check.GIVE, Check.LOOK}) {
+            Check.due("no such name", MISSING, k.sys(0, call, 3, 99));
+            Check.due("none in a directory", MISSING, k.sys(0, call, Check.path(1, 1), 99));
+            Check.due("a name in a file", MISSING, k.sys(0, call, Check.path(2, 1), 99));
+            for (int bit = 28; bit < 32; bit++) {
+                Check.due("bit " + bit, MISSING, k.sys(0, call, 2 | 1 << bit, 99));
             }
         }
-        Check.due("all nodes are there", 32, k.count(0));
-        Check.due("denied before full", CageKernel.DENIED, k.sys(0, Check.MAKE, Check.path(1, 14), 0));
-        Check.due("full before quota", CageKernel.FULL, k.sys(0, Check.MAKE, 14, 0));
-        Check.due("exists before full", CageKernel.EXISTS, k.sys(0, Check.MAKE, 2, 0));
     }
 
-    private static void remove() {
-        CageKernel k = new CageKernel();
-        k.node(0, 1, Check.DIRECTORY, 5);
-        k.node(1, 2, Check.FILE, 200);
-        k.node(1, 3, Check.DIRECTORY, 5);
-        k.node(3, 4, Check.FILE, 5);
-        k.node(0, 5, Check.FILE, 5);
-        k.cage(0, 5, 5, -1, 255);
-        k.start(0, 255, -1);
-        Check.due("missing", CageKernel.MISSING, k.sys(0, Check.REMOVE, 9, 0));
-        Check.due("node 0", CageKernel.BUSY, k.sys(0, Check.REMOVE, 0, 0));
-        Check.due("not empty", CageKernel.BUSY, k.sys(0, Check.REMOVE, Check.path(1, 3), 0));
-        Check.due("the directory's owner has no number", CageKernel.DENIED, k.sys(0, Check.REMOVE, 5, 0));
-        Check.due("the directory counts, not the file", 0, k.sys(0, Check.REMOVE, Check.path(1, 2), 0));
-        Check.due("gone", CageKernel.REFUSED, k.file(2, 0));
-        Check.due("gone", CageKernel.MISSING, k.sys(0, Check.READ, Check.path(1, 2), 0));
-        Check.due("in it", 1, k.file(1, 4));
-        Check.due("its number comes again", 2, k.sys(0, Check.MAKE, Check.path(1, 2), 0));
-        Check.due("a file", 0, k.sys(0, Check.REMOVE, Check.path(1, 3, 4), 0));
-        Check.due("empty now", 0, k.sys(0, Check.REMOVE, Check.path(1, 3), 0));
-        Check.due("used", 1, k.look(0, 1));
-        Check.due("made by it", 0, k.sys(0, Check.REMOVE, Check.path(1, 2), 0));
-        Check.due("used", 0, k.look(0, 1));
-        Check.due("count", 3, k.count(0));
-        k.sys(0, Check.POWERS, 0, 0);
-        Check.due("busy before denied", CageKernel.BUSY, k.sys(0, Check.REMOVE, 0, 0));
+    private static void readKind() {
+        Check.sentence(7, "4 READ a: KIND if it is a DIRECTORY");
+        CageKernel k = withOwners(255, 10);
+        Check.due("a directory", KIND, k.sys(0, Check.READ, 1, 0));
+        Check.due("the root", KIND, k.sys(0, Check.READ, 0, 0));
+        Check.due("by a way up", KIND, k.sys(0, Check.READ, Check.path(1, Check.UP), 0));
+        Check.due("a file", 0, k.sys(0, Check.READ, 2, 0));
     }
 
-    private static void removeBusyEverywhere() {
-        CageKernel first = new CageKernel();
-        first.node(0, 1, Check.DIRECTORY, 0);
-        first.cage(1, 0, 9, -1, 255);
-        first.cage(0, 0, 9, -1, 255);
-        first.start(1, 255, -1);
-        Check.due("root of the first cage", CageKernel.BUSY, first.sys(0, Check.REMOVE, 1, 0));
-        CageKernel k = Check.oneCage(255);
-        for (int name = 1; name <= 4; name++) {
-            k.node(0, name, Check.DIRECTORY, 0);
+    private static void writeKind() {
+        Check.sentence(7, "5 WRITE a b: KIND; DENIED if it MAY not");
+        CageKernel k = withOwners(255, 10, 15);
+        Check.due("a directory", KIND, k.sys(0, Check.WRITE, 1, 0));
+        Check.due("kind before denied", KIND, k.sys(0, Check.WRITE, 3, 0));
+        Check.due("the root, kind before denied", KIND, k.sys(0, Check.WRITE, 0, 0));
+    }
+
+    private static void readAndWrite() {
+        Check.sentence(7, "4 READ a: its int; 5 WRITE a b: its int becomes b: 0");
+        CageKernel k = withOwners(0, 10, 10);
+        Check.due("at first", 0, k.sys(0, Check.READ, 2, 0));
+        for (int value : new int[] {7, -5, Check.LEAST, Check.MOST, MISSING, 0}) {
+            Check.due("write", 0, k.sys(0, Check.WRITE, 2, value));
+            Check.due("read", value, k.sys(0, Check.READ, 2, 0));
+            Check.due("file", value, k.file(2, 4));
+            Check.due("the other file's stays", 0, k.sys(0, Check.READ, 4, 0));
         }
-        k.cage(1, 0, 1, -1, 255);
-        Check.due("root of a cage that is not started", CageKernel.BUSY, k.sys(0, Check.REMOVE, 1, 0));
-        k.cage(0, 0, 1, -1, 255);
-        k.start(2, 255, -1);
-        k.sys(1, Check.MOUNT, 2, 3);
-        Check.due("point in another cage", CageKernel.BUSY, k.sys(0, Check.REMOVE, 2, 0));
-        Check.due("shown in another cage", CageKernel.BUSY, k.sys(0, Check.REMOVE, 3, 0));
-        Check.due("neither", 0, k.sys(0, Check.REMOVE, 4, 0));
-        k.sys(1, Check.UNMOUNT, 2, 0);
-        Check.due("point no more", 0, k.sys(0, Check.REMOVE, 2, 0));
-        Check.due("shown no more", 0, k.sys(0, Check.REMOVE, 3, 0));
-        Check.due("still a root", CageKernel.BUSY, k.sys(0, Check.REMOVE, 1, 0));
     }
 
-    private static void give() {
-        CageKernel k = new CageKernel();
-        k.node(0, 1, Check.FILE, 14);
-        k.node(0, 2, Check.DIRECTORY, 15);
-        k.node(0, 3, Check.DIRECTORY, 9);
-        k.node(0, 4, Check.DIRECTORY, 10);
-        k.cage(0, 10, 5, -1, 255);
-        k.start(0, 255, -1);
-        Check.due("missing", CageKernel.MISSING, k.sys(0, Check.GIVE, 9, 0));
-        for (int user : new int[] {-1, 5, 14, Check.LEAST, Check.MOST}) {
-            Check.due("no user " + user, CageKernel.DENIED, k.sys(0, Check.GIVE, 1, user));
+    private static void writeDenied() {
+        Check.sentence(7, "5 WRITE a b: DENIED if it MAY not");
+        CageKernel k = withOwners(0, 11);
+        Check.due("denied", DENIED, k.sys(0, Check.WRITE, 2, 9));
+        Check.due("the int stays", 0, k.file(2, 4));
+        Check.due("everybody may read", 0, k.sys(0, Check.READ, 2, 0));
+    }
+
+    private static void mayChangeItsOwn() {
+        Check.sentence(7, "It MAY change a NODE whose OWNER is its user's host user");
+        CageKernel k = withOwners(254, 0, 9, 10, 11, 14, 15);
+        int[] asZero = {DENIED, DENIED, 0, DENIED, DENIED, DENIED};
+        int[] asFour = {DENIED, DENIED, DENIED, DENIED, 0, DENIED};
+        for (int i = 0; i < asZero.length; i++) {
+            Check.due("user 0, owner " + i, asZero[i], k.sys(0, Check.WRITE, 2 * i + 2, 1));
         }
-        Check.due("owner above", CageKernel.DENIED, k.sys(0, Check.GIVE, 2, 0));
-        Check.due("owner below", CageKernel.DENIED, k.sys(0, Check.GIVE, 3, 0));
-        Check.due("the owner stays", 14, k.file(1, 3));
-        Check.due("give", 0, k.sys(0, Check.GIVE, 1, 0));
-        Check.due("owner", 10, k.file(1, 3));
-        Check.due("give a directory", 0, k.sys(0, Check.GIVE, 4, 4));
-        Check.due("owner", 14, k.file(4, 3));
+        k.sys(0, Check.USER, 4, 0);
+        for (int i = 0; i < asFour.length; i++) {
+            Check.due("user 4, owner " + i, asFour[i], k.sys(0, Check.WRITE, 2 * i + 2, 1));
+        }
+    }
+
+    private static void mayChangeWithOwn() {
+        Check.sentence(7, "or, with OWN in EFFECTIVE, one whose OWNER has a number in its cage");
+        CageKernel k = withOwners(255, 0, 9, 10, 11, 14, 15);
+        int[] withOwn = {DENIED, DENIED, 0, 0, 0, DENIED};
+        k.sys(0, Check.POWERS, 0, 1);
+        for (int i = 0; i < withOwn.length; i++) {
+            Check.due("with own, owner " + i, withOwn[i], k.sys(0, Check.WRITE, 2 * i + 2, 1));
+        }
         k.sys(0, Check.POWERS, 0, 254);
-        Check.due("its own without own", CageKernel.DENIED, k.sys(0, Check.GIVE, 1, 0));
+        Check.due("own is only permitted", DENIED, k.sys(0, Check.WRITE, 8, 1));
     }
 
-    private static void look() {
-        CageKernel k = new CageKernel();
-        int[] owners = {9, 10, 14, 15};
-        int[] numbers = {255, 0, 4, 255};
-        for (int i = 0; i < owners.length; i++) {
-            k.node(0, 1 + i, Check.DIRECTORY, owners[i]);
-            k.node(0, 5 + i, Check.FILE, owners[i]);
+    private static void giveWithoutOwn() {
+        Check.sentence(7, "8 GIVE a b: DENIED if OWN is not in EFFECTIVE");
+        CageKernel k = withOwners(255, 10);
+        k.sys(0, Check.POWERS, 0, 254);
+        Check.due("its own, to itself", DENIED, k.sys(0, Check.GIVE, 1, 0));
+        Check.due("the owner stays", 10, k.file(1, 3));
+        k.sys(0, Check.POWERS, 0, 1);
+        Check.due("with own alone", 0, k.sys(0, Check.GIVE, 1, 1));
+    }
+
+    private static void giveOwnersWithoutNumber() {
+        Check.sentence(7, "8 GIVE a b: DENIED if .. its OWNER has no number in the cage");
+        CageKernel k = withOwners(255, 9, 10, 14, 15);
+        int[] due = {DENIED, DENIED, 0, 0, 0, 0, DENIED, DENIED};
+        for (int n = 1; n <= 8; n++) {
+            Check.due("node " + n, due[n - 1], k.sys(0, Check.GIVE, n, 2));
         }
-        k.cage(0, 10, 5, -1, 255);
-        k.start(0, 0, -1);
-        for (int i = 0; i < owners.length; i++) {
-            Check.due("directory of " + owners[i], numbers[i], k.sys(0, Check.LOOK, 1 + i, 0));
-            Check.due("file of " + owners[i], 256 + numbers[i], k.sys(0, Check.LOOK, 5 + i, 0));
+        Check.due("the root's owner is host user 0", DENIED, k.sys(0, Check.GIVE, 0, 2));
+        Check.due("the owner stays", 15, k.file(8, 3));
+    }
+
+    private static void giveToNoUser() {
+        Check.sentence(7, "8 GIVE a b: DENIED if .. b is no user of it");
+        CageKernel k = withOwners(255, 10);
+        Check.outside("user", 0, 4, DENIED, user -> k.sys(0, Check.GIVE, 1, user));
+        Check.due("a host user is none", DENIED, k.sys(0, Check.GIVE, 1, 10));
+        Check.due("the owner stays", 10, k.file(1, 3));
+    }
+
+    private static void giveMakesOwner() {
+        Check.sentence(7, "8 GIVE a b: b is its OWNER: 0");
+        CageKernel k = withOwners(255, 11);
+        Check.due("a directory to the least", 0, k.sys(0, Check.GIVE, 1, 0));
+        Check.due("owner", 10, k.file(1, 3));
+        Check.due("a file to the last", 0, k.sys(0, Check.GIVE, 2, 4));
+        Check.due("owner", 14, k.file(2, 3));
+    }
+
+    private static void lookNumbers() {
+        Check.sentence(7, "17 LOOK a: its OWNER's number in the cage, 255 if it has none, and 256 for a FILE");
+        CageKernel k = withOwners(0, 9, 10, 14, 15, 255);
+        int[] numbers = {255, 0, 4, 255, 255};
+        for (int i = 0; i < numbers.length; i++) {
+            Check.due("directory " + i, numbers[i], k.sys(0, Check.LOOK, 2 * i + 1, 0));
+            Check.due("file " + i, 256 + numbers[i], k.sys(0, Check.LOOK, 2 * i + 2, 0));
         }
         Check.due("the root", 255, k.sys(0, Check.LOOK, 0, 0));
-        Check.due("missing", CageKernel.MISSING, k.sys(0, Check.LOOK, 9, 0));
-    }
-
-    /** Limits within limits, for NODES. */
-    private static void quota() {
-        CageKernel k = new CageKernel();
-        k.cage(0, 0, 9, -1, 0xf3);
-        k.cage(0, 0, 9, 0, 0xff);
-        k.cage(0, 0, 9, 1, 0xf2);
-        k.cage(0, 0, 9, 0, 0xff);
-        for (int c = 0; c < 4; c++) {
-            k.start(c, 255, -1);
-        }
-        Check.due("first", 1, k.sys(2, Check.MAKE, 1, 0));
-        Check.due("second", 2, k.sys(2, Check.MAKE, 2, 0));
-        Check.due("its own limit", CageKernel.QUOTA, k.sys(2, Check.MAKE, 3, 0));
-        Check.due("the third is its outer cage's", 3, k.sys(1, Check.MAKE, 3, 0));
-        for (int p = 0; p < 4; p++) {
-            Check.due("the outermost limit, " + p, CageKernel.QUOTA, k.sys(p, Check.MAKE, 4, 0));
-        }
-        int[] used = {3, 3, 2, 0};
-        for (int c = 0; c < 4; c++) {
-            Check.due("used by " + c, used[c], k.look(c, 1));
-        }
-        k.sys(2, Check.EXIT, 0, 0);
-        Check.due("used after the cage's end", 3, k.look(0, 1));
-        Check.due("another cage takes one away", 0, k.sys(3, Check.REMOVE, 1, 0));
-        Check.due("so there is room", 1, k.sys(3, Check.MAKE, 5, 0));
-        Check.due("used by the one that made it", 1, k.look(3, 1));
-        Check.due("used by the ended cage", 1, k.look(2, 1));
+        CageKernel all = Check.oneCage(0);
+        all.node(0, 1, Check.FILE, 255);
+        Check.due("number 255", 256 + 255, all.sys(0, Check.LOOK, 1, 0));
+        Check.due("number 0", 0, all.sys(0, Check.LOOK, 0, 0));
     }
 }

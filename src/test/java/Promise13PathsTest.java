@@ -1,10 +1,15 @@
-/** PATHS, and the MOUNT by which one came. Each NODE's OWNER is its own number, so that LOOK tells where a PATH leads. */
+/** PATHS, and the MOUNT by which one came, a method for each sentence. Each NODE's OWNER is its own number, so that LOOK tells where a PATH leads. */
 public final class Promise13PathsTest {
     private static final int UP = Check.UP, MISSING = CageKernel.MISSING;
 
     public static void main(String[] args) {
         names();
-        bits();
+        noSuchThing();
+        noNames();
+        upToTheFirstZero();
+        upToTheSeventh();
+        otherBits();
+        upToTheDirectory();
         rootOfTheCage();
         aMountStaysOnTheWay();
         upFromAMountOnAMount();
@@ -41,35 +46,75 @@ public final class Promise13PathsTest {
     }
 
     private static void names() {
+        Check.sentence(13, "a NAME: what is in the DIRECTORY with it");
         CageKernel k = withTree(0);
-        leads(k, "no name", 0);
         leads(k, "one name", 1, 1);
         leads(k, "four names", 7, 1, 3, 5, 7);
         leads(k, "a file", 256 + 8, 2, 4, 6, 8);
-        leads(k, "a name in a file", MISSING, 2, 4, 6, 8, 8);
-        leads(k, "up from a file", 6, 2, 4, 6, 8, UP);
-        leads(k, "a name that is not there", MISSING, 3);
-        leads(k, "no way on from nothing", MISSING, 3, UP);
         leads(k, "up and down", 4, 1, UP, 2, 4);
-        leads(k, "up from the root", 2, UP, UP, 2);
-        leads(k, "seven names", 7, 1, UP, UP, 1, 3, 5, 7);
-        leads(k, "up at last", 5, 1, 3, 5, 7, UP, 7, UP);
     }
 
-    private static void bits() {
+    private static void noSuchThing() {
+        Check.sentence(13, "MISSING if there is no such thing (a NAME in a FILE, too ..)");
+        CageKernel k = withTree(0);
+        leads(k, "a name that is not there", MISSING, 3);
+        leads(k, "a name that is elsewhere", MISSING, 1, 4);
+        leads(k, "in an empty directory", MISSING, 1, 3, 5, 7, 7);
+        leads(k, "no way on from nothing", MISSING, 3, UP);
+        leads(k, "a name in a file", MISSING, 2, 4, 6, 8, 8);
+        leads(k, "no way on from a name in a file", MISSING, 2, 4, 6, 8, 8, UP);
+        for (int name = 1; name <= 14; name++) {
+            leads(k, "name " + name, name <= 2 ? name : MISSING, name);
+        }
+    }
+
+    private static void noNames() {
+        Check.sentence(13, "Following one from the cage's ROOT: no NAMES");
+        leads(withTree(0), "the root of all", 0);
+        leads(withTree(3), "another root", 3);
+    }
+
+    private static void upToTheFirstZero() {
+        Check.sentence(13, "up to the first 0");
         CageKernel k = withTree(0);
         leads(k, "names behind a 0 are none", 1, 1, 0, 9, 9);
         leads(k, "a 0 at first", 0, 0, 9, UP, 9, 9, 9, 9);
+        leads(k, "a 0 before the seventh", 5, 1, UP, 1, 3, 5, 0, 9);
+    }
+
+    private static void upToTheSeventh() {
+        Check.sentence(13, "or the seventh");
+        CageKernel k = withTree(0);
+        leads(k, "the seventh is a name", 7, 1, UP, UP, 1, 3, 5, 7);
+        leads(k, "the seventh is missing", MISSING, 1, UP, UP, 1, 3, 5, 9);
+        leads(k, "the seventh is up", 5, 1, 3, 5, 7, UP, 7, UP);
+        leads(k, "six alone", 5, 1, UP, UP, 1, 3, 5);
         leads(k, "seven ups", 0, UP, UP, UP, UP, UP, UP, UP);
+    }
+
+    private static void otherBits() {
+        Check.sentence(13, "MISSING .. or a PATH with other bits than its 28");
+        CageKernel k = withTree(0);
         for (int bit = 28; bit < 32; bit++) {
             Check.due("bit " + bit, MISSING, k.sys(0, Check.LOOK, 1 | 1 << bit, 0));
             Check.due("bit " + bit + " alone", MISSING, k.sys(0, Check.LOOK, 1 << bit, 0));
+            Check.due("bit " + bit + " with up", MISSING, k.sys(0, Check.LOOK, Check.UP | 1 << bit, 0));
         }
         Check.due("all bits", MISSING, k.sys(0, Check.LOOK, -1, 0));
-        Check.due("the least", MISSING, k.sys(0, Check.LOOK, Check.LEAST, 0));
+        Check.due("the highest path", 0, k.sys(0, Check.LOOK, (1 << 28) - 1, 0));
+        Check.due("one above it", MISSING, k.sys(0, Check.LOOK, 1 << 28, 0));
+    }
+
+    private static void upToTheDirectory() {
+        Check.sentence(13, "UP: .. else the DIRECTORY in which it is");
+        CageKernel k = withTree(0);
+        leads(k, "from a directory", 1, 1, 3, UP);
+        leads(k, "twice", 0, 1, 3, UP, UP);
+        leads(k, "from a file", 6, 2, 4, 6, 8, UP);
     }
 
     private static void rootOfTheCage() {
+        Check.sentence(13, "UP: from the ROOT, come to by no MOUNT, to itself");
         CageKernel k = withTree(3);
         leads(k, "its root", 3);
         leads(k, "below it", 7, 5, 7);
@@ -79,6 +124,7 @@ public final class Promise13PathsTest {
     }
 
     private static void aMountStaysOnTheWay() {
+        Check.sentence(13, "the MOUNT by which one came stays with one on the way below what it shows");
         CageKernel k = withTree(0);
         mount(k, Check.path(1, 3), 2);
         leads(k, "shown", 2, 1, 3);
@@ -97,6 +143,7 @@ public final class Promise13PathsTest {
     }
 
     private static void upFromAMountOnAMount() {
+        Check.sentence(13, "from what a MOUNT shows, by which one came there: what is UP from its POINT");
         CageKernel k = withTree(0);
         mount(k, Check.path(1, 3), Check.path(2, 4));
         mount(k, Check.path(1, 3), 2);
@@ -112,6 +159,7 @@ public final class Promise13PathsTest {
     }
 
     private static void upFromThePointAsItWasComeTo() {
+        Check.sentence(13, "what is UP from its POINT, as that was come to when it was made");
         CageKernel k = withTree(0);
         mount(k, Check.path(1, 3), 2);
         mount(k, Check.path(1, 3, 4), Check.path(1));
@@ -126,6 +174,7 @@ public final class Promise13PathsTest {
     }
 
     private static void fourMountsDeep() {
+        Check.sentence(13, "what is UP from its POINT, as that was come to when it was made: through all 4 MOUNTS");
         CageKernel k = withTree(0);
         mount(k, Check.path(1, 3), 2);
         mount(k, Check.path(1, 3), Check.path(2, 4, 6));
@@ -142,6 +191,7 @@ public final class Promise13PathsTest {
     }
 
     private static void chainsInOneStep() {
+        Check.sentence(13, "what the latest such one SHOWS, and so on as often as that is so");
         CageKernel k = withTree(0);
         mount(k, Check.path(2, 4), Check.path(1, 3, 5));
         mount(k, 1, Check.path(2));
@@ -159,6 +209,7 @@ public final class Promise13PathsTest {
     }
 
     private static void eachMountOnceInOneStep() {
+        Check.sentence(13, "(each MOUNT once in one step)");
         CageKernel k = withTree(0);
         mount(k, 1, 2);
         mount(k, 1, 2);
@@ -173,6 +224,7 @@ public final class Promise13PathsTest {
 
     /** A way up leads to a POINT without crossing: so one can mount on it again. */
     private static void twoMountsOfOnePoint() {
+        Check.sentence(13, "what the latest such one SHOWS .. (each MOUNT once in one step)");
         CageKernel k = withTree(0);
         mount(k, 2, Check.path(1, 3));
         mount(k, Check.path(1, 3), Check.path(1, 3, 5));
@@ -190,6 +242,7 @@ public final class Promise13PathsTest {
     }
 
     private static void theRootShown() {
+        Check.sentence(13, "UP: from the ROOT, come to by no MOUNT, to itself; from what a MOUNT shows ..");
         CageKernel k = withTree(1);
         mount(k, Check.path(3, 5), 0);
         leads(k, "the root, come to by a mount", 1, 3, 5);
@@ -205,6 +258,7 @@ public final class Promise13PathsTest {
     }
 
     private static void calls() {
+        Check.sentence(13, "Following one from the cage's ROOT: every call that takes a PATH");
         CageKernel k = withTree(0);
         mount(k, 1, 2);
         Check.due("write below a mount", 0, k.sys(0, Check.WRITE, Check.path(1, 4, 6, 8), 9));
