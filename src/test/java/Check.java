@@ -1,6 +1,6 @@
 import java.util.function.IntUnaryOperator;
 
-/** What every test uses: it compares answers, prints those that are not due, and ends with exit code 1 if there was one. */
+/** What every test uses: it compares answers, prints those that are not due, and ends with 1 if there was one. */
 final class Check {
     static final int NUMBER = 0, FORK = 1, EXIT = 2, WAIT = 3, READ = 4, WRITE = 5, MAKE = 6, REMOVE = 7, GIVE = 8,
             USER = 9, POWERS = 10, KILL = 11, MOUNT = 12, UNMOUNT = 13, FILTER = 14, SEND = 15, TAKE = 16, LOOK = 17;
@@ -14,9 +14,9 @@ final class Check {
     private Check() {
     }
 
-    /** The document's words that the next answers belong to, and the number of the promise that they are tested with. */
+    /** The sentence of the document, by its words, that the next answers belong to, and its promise. */
     static void sentence(int promise, String words) {
-        sentence = "promise " + promise + ", \"" + words + "\": ";
+        sentence = "promise " + promise + ", " + words + ": ";
     }
 
     static void due(String what, int want, int got) {
@@ -38,9 +38,16 @@ final class Check {
         }
     }
 
-    /** The answer is due for ints that are not from..to: the nearest, the farthest, and those whose lowest bits are in range. */
+    /** The answer is due for ints that are not from..to: near and far ones, and some whose lowest bits are in range. */
     static void outside(String what, int from, int to, int want, IntUnaryOperator call) {
         each(what, want, call, from - 1, to + 1, from - 256, to + 256, from + 65536, from + LEAST, LEAST, MOST);
+    }
+
+    /** What is seen of a thing with what 0, 1, 2, .. */
+    static void row(String thing, IntUnaryOperator look, int... due) {
+        for (int what = 0; what < due.length; what++) {
+            due(thing + ", what " + what, due[what], look.applyAsInt(what));
+        }
     }
 
     static void end() {
@@ -58,7 +65,7 @@ final class Check {
         return path;
     }
 
-    /** A kernel with cage 0 over the whole tree, host users 0..255, the highest limits, and PROCESS 0 with these powers. */
+    /** A kernel with cage 0 over all NODES and host users, the highest limits, and PROCESS 0 with these powers. */
     static CageKernel oneCage(int powers) {
         CageKernel k = new CageKernel();
         due("cage", 0, k.cage(0, 0, 256, -1, 255));
@@ -72,7 +79,7 @@ final class Check {
         due("a filter of one step", 1, k.step(f, 7, what, 0));
     }
 
-    /** FILES of host user 0, with the least NAMES that are free in the first of the DIRECTORIES, then the next, until NODES run out. */
+    /** FILES of host user 0 in these DIRECTORIES, one after another, by their least free NAMES, until NODES run out. */
     static void fillNodes(CageKernel k, int... directories) {
         for (int in : directories) {
             for (int name = 1; name <= 14; name++) {
@@ -80,6 +87,15 @@ final class Check {
             }
         }
         due("all nodes are there", 32, k.count(0));
+    }
+
+    /** A kernel whose NODES are all there; DIRECTORY 2 has the FILES 1, 2, 3 and NAMES that are free. */
+    static CageKernel allNodes() {
+        CageKernel k = new CageKernel();
+        k.node(0, 1, DIRECTORY, 0);
+        k.node(0, 2, DIRECTORY, 0);
+        fillNodes(k, 0, 1, 2);
+        return k;
     }
 
     /** PROCESS p forks until no PROCESS is free. */

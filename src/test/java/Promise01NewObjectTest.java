@@ -13,10 +13,7 @@ public final class Promise01NewObjectTest {
     private static void nodeZeroAlone(CageKernel k) {
         Check.sentence(1, "NODE 0 alone");
         Check.due("count", 1, k.count(0));
-        int[] root = {0, 0, -1, 0, 0, -1};
-        for (int what = 0; what < root.length; what++) {
-            Check.due("node 0, " + what, root[what], k.file(0, what));
-        }
+        Check.row("node 0", what -> k.file(0, what), 0, 0, -1, 0, 0, -1);
         for (int n = 1; n < 32; n++) {
             Check.due("no node " + n, CageKernel.REFUSED, k.file(n, 0));
         }

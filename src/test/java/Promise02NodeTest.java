@@ -22,12 +22,8 @@ public final class Promise02NodeTest {
         CageKernel k = new CageKernel();
         Check.due("directory", 1, k.node(0, 14, Check.DIRECTORY, 255));
         Check.due("file in it", 2, k.node(1, 1, Check.FILE, 0));
-        int[] first = {0, 14, 0, 255, 1, -1};
-        int[] second = {1, 1, 1, 0, 0, -1};
-        for (int what = 0; what < 6; what++) {
-            Check.due("node 1, " + what, first[what], k.file(1, what));
-            Check.due("node 2, " + what, second[what], k.file(2, what));
-        }
+        Check.row("node 1", what -> k.file(1, what), 0, 14, 0, 255, 1, -1);
+        Check.row("node 2", what -> k.file(2, what), 1, 1, 1, 0, 0, -1);
         Check.due("count", 3, k.count(0));
     }
 
@@ -86,10 +82,7 @@ public final class Promise02NodeTest {
 
     private static void full() {
         Check.sentence(2, "NODES 0..31, FULL");
-        CageKernel k = new CageKernel();
-        k.node(0, 1, Check.DIRECTORY, 0);
-        k.node(0, 2, Check.DIRECTORY, 0);
-        Check.fillNodes(k, 0, 1, 2);
+        CageKernel k = Check.allNodes();
         Check.due("node 31 is there", 1, k.file(31, 0));
         Check.due("full", CageKernel.FULL, k.node(2, 14, 0, 0));
         Check.due("still 32", 32, k.count(0));
@@ -97,10 +90,7 @@ public final class Promise02NodeTest {
 
     private static void whatIsTestedFirst() {
         Check.sentence(2, "REFUSED if ..; EXISTS; FULL");
-        CageKernel k = new CageKernel();
-        k.node(0, 1, Check.DIRECTORY, 0);
-        k.node(0, 2, Check.DIRECTORY, 0);
-        Check.fillNodes(k, 0, 1, 2);
+        CageKernel k = Check.allNodes();
         Check.due("exists before full", CageKernel.EXISTS, k.node(2, 1, 0, 0));
         Check.due("refused before exists (kind)", REFUSED, k.node(2, 1, 2, 0));
         Check.due("refused before exists (owner)", REFUSED, k.node(2, 1, 0, 256));

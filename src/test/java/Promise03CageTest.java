@@ -23,10 +23,8 @@ public final class Promise03CageTest {
         for (int c = 0; c < 4; c++) {
             Check.due("cage", c, k.cage(1, 10, 5, outers[c], 0x21));
             Check.due("how many", c + 1, k.count(1));
-            int[] due = {0, 0, 0, 0, 0, 0, 0, outers[c]};
-            for (int what = 0; what < due.length; what++) {
-                Check.due("cage " + c + ", " + what, due[what], k.look(c, what));
-            }
+            int made = c;
+            Check.row("cage " + c, what -> k.look(made, what), 0, 0, 0, 0, 0, 0, 0, outers[c]);
         }
         Check.due("start", 0, k.start(0, 255, -1));
         Check.due("it sees its root as the top", 0, k.sys(0, Check.LOOK, Check.path(Check.UP), 0));

@@ -18,9 +18,7 @@ public final class Promise06StartTest {
     }
 
     private static void processIs(CageKernel k, int p, int... due) {
-        for (int what = 0; what < due.length; what++) {
-            Check.due("process " + p + ", " + what, due[what], k.process(p, what));
-        }
+        Check.row("process " + p, what -> k.process(p, what), due);
     }
 
     private static void itsInit() {
@@ -179,8 +177,8 @@ public final class Promise06StartTest {
     }
 
     private static void anew() {
-        Check.sentence(6, "1 for the one that it was started with (its INIT), then 2, 3, .. (none comes again before it "
-                + "is started anew)");
+        Check.sentence(6, "1 for the one that it was started with (its INIT), then 2, 3, .. (none comes again before "
+                + "it is started anew)");
         CageKernel k = Check.oneCage(255);
         Check.giveAlways(k, 0, 2);
         k.sys(0, Check.POWERS, 2, 7);

@@ -35,8 +35,8 @@ public final class Promise07MakeRemoveTest {
     }
 
     private static void make() {
-        Check.sentence(7, "6 MAKE a b: a new NODE, whose NAME is the last of PATH a, in what the rest of it leads to: .. its "
-                + "OWNER is the host user: its number");
+        Check.sentence(7, "6 MAKE a b: a new NODE, whose NAME is the last of PATH a, in what the rest of it leads to: "
+                + ".. its OWNER is the host user: its number");
         CageKernel k = new CageKernel();
         k.node(0, 1, Check.DIRECTORY, 12);
         k.cage(1, 10, 5, -1, 255);
@@ -45,12 +45,9 @@ public final class Promise07MakeRemoveTest {
         Check.due("directory", 2, make(k, Check.DIRECTORY, 14));
         Check.due("file", 3, make(k, Check.FILE, 14, 1));
         Check.due("by a way up", 4, make(k, Check.FILE, 14, Check.UP, 5));
-        int[][] due = {{0, 14, 1, 12, 1, 0}, {1, 1, 2, 12, 0, 0}, {1, 5, 1, 12, 0, 0}};
-        for (int what = 0; what < 6; what++) {
-            for (int i = 0; i < due.length; i++) {
-                Check.due("node " + (i + 2) + ", " + what, due[i][what], k.file(i + 2, what));
-            }
-        }
+        Check.row("node 2", what -> k.file(2, what), 0, 14, 1, 12, 1, 0);
+        Check.row("node 3", what -> k.file(3, what), 1, 1, 2, 12, 0, 0);
+        Check.row("node 4", what -> k.file(4, what), 1, 5, 1, 12, 0, 0);
         Check.due("used", 3, k.look(0, 1));
     }
 

@@ -1,4 +1,7 @@
-/** The calls 12 MOUNT and 13 UNMOUNT; what PATHS do with MOUNTS is tested with promise 13. A method for each sentence. */
+/**
+ * The calls 12 MOUNT and 13 UNMOUNT; what PATHS do with MOUNTS is tested with promise 13. A method for each of the
+ * document's sentences.
+ */
 public final class Promise07MountCallsTest {
     private static final int UP = Check.UP;
     private static final int MISSING = CageKernel.MISSING, KIND = CageKernel.KIND, DENIED = CageKernel.DENIED,
@@ -23,7 +26,7 @@ public final class Promise07MountCallsTest {
         Check.end();
     }
 
-    /** DIRECTORIES 1, 2, 3 in the root, DIRECTORY 4 in 1, FILE 5 in the root; NODES and OWNERS have the same numbers. */
+    /** DIRECTORIES 1, 2, 3 and FILE 5 in the root, DIRECTORY 4 in 1; NODES and OWNERS have the same numbers. */
     private static CageKernel withNodes(int powers) {
         CageKernel k = Check.oneCage(powers);
         for (int name = 1; name <= 3; name++) {

@@ -28,8 +28,8 @@ public final class Promise07ProcessCallsTest {
     }
 
     private static void numbersDoNotComeAgain() {
-        Check.sentence(7, "0 NUMBER: its number in the cage: 1 for .. its INIT, then 2, 3, .. (none comes again before it is "
-                + "started anew)");
+        Check.sentence(7, "0 NUMBER: its number in the cage: 1 for .. its INIT, then 2, 3, .. (none comes again before "
+                + "it is started anew)");
         CageKernel k = new CageKernel();
         k.cage(0, 0, 9, -1, 0x2f);
         k.start(0, 255, -1);
@@ -155,10 +155,7 @@ public final class Promise07ProcessCallsTest {
         k.sys(0, Check.USER, 7, 0);
         k.sys(0, Check.POWERS, 0, 4);
         Check.due("fork", 2, k.sys(0, Check.FORK, 0, 0));
-        int[] due = {1, 0, 2, 7, 0, 4, 6, 6, 14, 2, 0};
-        for (int what = 0; what < due.length; what++) {
-            Check.due("child, " + what, due[what], k.process(1, what));
-        }
+        Check.row("child", what -> k.process(1, what), 1, 0, 2, 7, 0, 4, 6, 6, 14, 2, 0);
         k.sys(1, Check.POWERS, 0, 0);
         Check.due("its powers are its own", 4, k.process(0, 5));
         k.sys(1, Check.FILTER, 1, 0);
@@ -209,8 +206,8 @@ public final class Promise07ProcessCallsTest {
     }
 
     private static void othersEndBeforeInit() {
-        Check.sentence(7, "When INIT ends all others of its cage that are LIVE end .. all ZOMBIES of the cage are gone, then "
-                + "INIT is");
+        Check.sentence(7, "When INIT ends all others of its cage that are LIVE end .. all ZOMBIES of the cage are "
+                + "gone, then INIT is");
         CageKernel k = Check.oneCage(255);
         k.cage(0, 0, 9, -1, 255);
         k.start(1, 255, -1);
@@ -241,10 +238,7 @@ public final class Promise07ProcessCallsTest {
         k.sys(0, Check.MAKE, 2, 0);
         k.sys(0, Check.FORK, 0, 0);
         k.sys(0, Check.EXIT, 3, 0);
-        int[] due = {0, 1, 0, 0, 0, 0, 2, -1};
-        for (int what = 0; what < due.length; what++) {
-            Check.due("cage 0, " + what, due[what], k.look(0, what));
-        }
+        Check.row("cage 0", what -> k.look(0, what), 0, 1, 0, 0, 0, 0, 2, -1);
         Check.due("started anew", 0, k.start(0, 255, -1));
         Check.due("no mount is left", CageKernel.NONE, k.sys(0, Check.UNMOUNT, 1, 0));
         Check.due("no point is left", 0, k.sys(0, Check.REMOVE, 1, 0));
@@ -267,10 +261,7 @@ public final class Promise07ProcessCallsTest {
         k.sys(1, Check.SEND, 0, 5);
         k.sys(1, Check.MOUNT, 1, 0);
         k.sys(0, Check.EXIT, 3, 0);
-        int[] inner = {1, 0, 3, 1, 1, 0, 3, 0};
-        for (int what = 0; what < inner.length; what++) {
-            Check.due("cage 1, " + what, inner[what], k.look(1, what));
-        }
+        Check.row("cage 1", what -> k.look(1, what), 1, 0, 3, 1, 1, 0, 3, 0);
         Check.due("its init calls", 5, k.sys(1, Check.TAKE, 0, 0));
         Check.due("its zombie is there", 3 * 256 + 137, k.sys(1, Check.WAIT, 0, 0));
         Check.due("it is still used by the outer one", 2, k.look(0, 2));

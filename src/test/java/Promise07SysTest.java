@@ -147,7 +147,7 @@ public final class Promise07SysTest {
     }
 
     private static void theNextCallIsTheFirst() {
-        Check.sentence(7, "Before a call all FILTERS of the PROCESS are run: not the one that it only gets, nor others'");
+        Check.sentence(7, "Before a call all FILTERS of the PROCESS are run: not one that it only gets, nor others'");
         CageKernel k = Check.oneCage(255);
         Check.giveAlways(k, 0, 1);
         k.sys(0, Check.FORK, 0, 0);

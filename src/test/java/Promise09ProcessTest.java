@@ -12,9 +12,7 @@ public final class Promise09ProcessTest {
     }
 
     private static void all(CageKernel k, int p, int... due) {
-        for (int what = 0; what < due.length; what++) {
-            Check.due("process " + p + ", " + what, due[what], k.process(p, what));
-        }
+        Check.row("process " + p, what -> k.process(p, what), due);
     }
 
     private static void liveZombieAndGone() {

@@ -28,19 +28,12 @@ public final class Promise10FileTest {
         k.sys(0, Check.MAKE, 7, Check.DIRECTORY);
         k.sys(0, Check.WRITE, Check.path(3, 5), -44);
         k.sys(1, Check.GIVE, 5, 3);
-        int[][] due = {
-            {0, 0, -1, 0, 2, -1},
-            {0, 3, 0, 20, 2, -1},
-            {0, 4, 1, 21, 1, -1},
-            {1, 5, 1, 23, -44, 1},
-            {1, 6, 2, 20, 0, 1},
-            {0, 7, 0, 0, 0, 0},
-        };
-        for (int n = 0; n < due.length; n++) {
-            for (int what = 0; what < 6; what++) {
-                Check.due("node " + n + ", " + what, due[n][what], k.file(n, what));
-            }
-        }
+        Check.row("node 0", what -> k.file(0, what), 0, 0, -1, 0, 2, -1);
+        Check.row("node 1", what -> k.file(1, what), 0, 3, 0, 20, 2, -1);
+        Check.row("node 2", what -> k.file(2, what), 0, 4, 1, 21, 1, -1);
+        Check.row("node 3", what -> k.file(3, what), 1, 5, 1, 23, -44, 1);
+        Check.row("node 4", what -> k.file(4, what), 1, 6, 2, 20, 0, 1);
+        Check.row("node 5", what -> k.file(5, what), 0, 7, 0, 0, 0, 0);
     }
 
     private static void nodeZero() {

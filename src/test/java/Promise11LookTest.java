@@ -14,9 +14,7 @@ public final class Promise11LookTest {
     }
 
     private static void all(CageKernel k, int c, int... due) {
-        for (int what = 0; what < due.length; what++) {
-            Check.due("cage " + c + ", " + what, due[what], k.look(c, what));
-        }
+        Check.row("cage " + c, what -> k.look(c, what), due);
     }
 
     private static void cagesInCages() {
@@ -51,8 +49,8 @@ public final class Promise11LookTest {
     }
 
     private static void usedNodes() {
-        Check.sentence(11, "USED by a cage: the NODES that its PROCESSES, and those of cages in it (at any depth), have made "
-                + "and that are there still");
+        Check.sentence(11, "USED by a cage: the NODES that its PROCESSES, and those of cages in it (at any depth), "
+                + "have made and that are there still");
         CageKernel k = new CageKernel();
         for (int c = 0; c < 4; c++) {
             k.cage(0, 0, 256, c - 1, 255);

@@ -11,9 +11,7 @@ public final class Promise12CountTest {
     }
 
     private static void are(CageKernel k, int... due) {
-        for (int what = 0; what < due.length; what++) {
-            Check.due("count " + what, due[what], k.count(what));
-        }
+        Check.row("count", what -> k.count(what), due);
     }
 
     private static void all() {
@@ -44,10 +42,7 @@ public final class Promise12CountTest {
 
     private static void nodesAndCages() {
         Check.sentence(12, "What 0: NODES; 1: cages: as many as there can be");
-        CageKernel k = new CageKernel();
-        k.node(0, 1, Check.DIRECTORY, 0);
-        k.node(0, 2, Check.DIRECTORY, 0);
-        Check.fillNodes(k, 0, 1, 2);
+        CageKernel k = Check.allNodes();
         for (int c = 0; c < 5; c++) {
             k.cage(0, 0, 1, -1, 0);
         }

@@ -1,4 +1,7 @@
-/** PATHS, and the MOUNT by which one came, a method for each sentence. Each NODE's OWNER is its own number, so that LOOK tells where a PATH leads. */
+/**
+ * PATHS, and the MOUNT by which one came; a method for each of the document's sentences. Each NODE's OWNER is its own
+ * number, so that LOOK tells where a PATH leads.
+ */
 public final class Promise13PathsTest {
     private static final int UP = Check.UP, MISSING = CageKernel.MISSING;
 
@@ -11,7 +14,10 @@ public final class Promise13PathsTest {
         otherBits();
         upToTheDirectory();
         rootOfTheCage();
+        pointOfAMount();
+        upFromWhatAMountShows();
         aMountStaysOnTheWay();
+        unmountOnTheWay();
         upFromAMountOnAMount();
         upFromThePointAsItWasComeTo();
         fourMountsDeep();
@@ -123,23 +129,49 @@ public final class Promise13PathsTest {
         leads(k, "names above are missing", MISSING, 1);
     }
 
-    private static void aMountStaysOnTheWay() {
-        Check.sentence(13, "the MOUNT by which one came stays with one on the way below what it shows");
+    private static void pointOfAMount() {
+        Check.sentence(13, "if that NODE is the POINT of a MOUNT of the cage, what the latest such one SHOWS");
         CageKernel k = withTree(0);
         mount(k, Check.path(1, 3), 2);
         leads(k, "shown", 2, 1, 3);
-        leads(k, "up from what it shows", 1, 1, 3, UP);
         leads(k, "below", 6, 1, 3, 4, 6);
+        leads(k, "what the point had is hidden", MISSING, 1, 3, 5);
+        leads(k, "no point", 4, 2, 4);
+        Check.due("unmount", 0, k.sys(0, Check.UNMOUNT, Check.path(1, 3), 0));
+        leads(k, "what the point had is there again", 5, 1, 3, 5);
+    }
+
+    private static void upFromWhatAMountShows() {
+        Check.sentence(13, "from what a MOUNT shows, by which one came there: what is UP from its POINT");
+        CageKernel k = withTree(0);
+        mount(k, Check.path(1, 3), 2);
+        leads(k, "up", 1, 1, 3, UP);
+        leads(k, "on to the root", 0, 1, 3, UP, UP);
+        leads(k, "what it shows, come to by no mount", 0, 2, UP);
+        leads(k, "back to that from below", 0, 2, 4, UP, UP);
+    }
+
+    private static void aMountStaysOnTheWay() {
+        Check.sentence(13, "the MOUNT by which one came stays with one on the way below what it shows: UP from there "
+                + "back to what it shows counts as come to by that MOUNT");
+        CageKernel k = withTree(0);
+        mount(k, Check.path(1, 3), 2);
         leads(k, "back to what it shows", 2, 1, 3, 4, UP);
-        leads(k, "and on from its point", 1, 1, 3, 4, UP, UP);
+        leads(k, "down again", 4, 1, 3, 4, UP, 4);
+        leads(k, "a further up goes on from its point", 1, 1, 3, 4, UP, UP);
         leads(k, "from deeper", 1, 1, 3, 4, 6, UP, UP, UP);
         leads(k, "on to the root", 0, 1, 3, 4, UP, UP, UP);
-        leads(k, "what it shows, come to by itself", 0, 2, UP);
-        leads(k, "below that", 0, 2, 4, UP, UP);
-        leads(k, "what the point had is hidden", MISSING, 1, 3, 5);
-        Check.due("on the way it is not taken", CageKernel.NONE, k.sys(0, Check.UNMOUNT, Check.path(1, 3, 4), 0));
+    }
+
+    private static void unmountOnTheWay() {
+        Check.sentence(13, "(so .. UNMOUNT takes it)");
+        CageKernel k = withTree(0);
+        mount(k, Check.path(1, 3), 2);
+        Check.due("below it is not taken", CageKernel.NONE, k.sys(0, Check.UNMOUNT, Check.path(1, 3, 4), 0));
+        Check.due("nor above", CageKernel.NONE, k.sys(0, Check.UNMOUNT, Check.path(1, 3, 4, UP, UP), 0));
+        Check.due("one is there", 1, k.look(0, 3));
         Check.due("back at what it shows it is", 0, k.sys(0, Check.UNMOUNT, Check.path(1, 3, 4, UP), 0));
-        leads(k, "what the point had is there again", 5, 1, 3, 5);
+        Check.due("it is gone", 0, k.look(0, 3));
     }
 
     private static void upFromAMountOnAMount() {
