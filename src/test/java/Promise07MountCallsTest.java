@@ -19,6 +19,7 @@ public final class Promise07MountCallsTest {
         unmountNone();
         unmountDenied();
         unmountBusy();
+        unmountBusyNoMore();
         unmountOrder();
         unmount();
         theOthersStay();
@@ -188,6 +189,20 @@ public final class Promise07MountCallsTest {
         Check.due("that one first", 0, unmount(k, 2, 4));
         Check.due("then it", 0, unmount(k, 2));
         Check.due("none is left", 0, k.look(0, 3));
+    }
+
+    private static void unmountBusyNoMore() {
+        Check.sentence(7, "13 UNMOUNT a: BUSY if another MOUNT's POINT was come by it: not if that MOUNT is gone");
+        CageKernel k = withNodes(255);
+        k.node(0, 6, Check.DIRECTORY, 6);
+        mount(k, 2, 1);
+        mount(k, 3, 0);
+        mount(k, 6, 0);
+        Check.due("the fourth", 0, mount(k, Check.path(2, 4), 0));
+        Check.due("the first is busy", BUSY, unmount(k, 2));
+        Check.due("the fourth is gone", 0, unmount(k, 2, 4));
+        Check.due("the first is not busy any more", 0, unmount(k, 2));
+        Check.due("two are left", 2, k.look(0, 3));
     }
 
     private static void unmountOrder() {
